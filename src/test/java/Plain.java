@@ -9,6 +9,7 @@ import java.util.Map;
  */
 final class Plain {
     static final class Fault extends Exception {
+        private static final long serialVersionUID = 1;
         final int place;
         final int code;
 
