@@ -207,6 +207,21 @@ public final class PromiseTest {
         due("4: letters begin anew", x.at(0, 0, true), 0);
         put(x, "");
         due("4: an empty text", x.valley(), 0);
+        x = of(THREE + "law 0;bears 1 1 1;quarrel a b;wish a b worth 1;street;");
+        x.image(0);
+        x.at(0, 0, true);
+        for (int i = 0; i < 2; i++) {
+            put(x, THREE);
+            due("4: three anew", x.valley(), 3);
+            due("4: no letter", x.untell(0), false);
+            due("4: no box", x.back(0), NONE);
+            due("4: nothing is left of another text", x.lawful(), 6);
+            due("4: nothing is left of another text", x.fairest(), 0);
+            due("4: nothing is left of another text", x.about(9), 0);
+            due("4: a second time is none in another text", x.about(8), 0);
+            put(x, THREE + "law 1;street;bears 9 9 9;wish a b worth 1;");
+            due("4: each once in another text", x.valley(), 3);
+        }
     }
 
     private static void promise4Tokens() {
@@ -216,6 +231,7 @@ public final class PromiseTest {
         faulty("house a weight 1;\u00e9", 1, 17);
         faulty("house abcdefghi weight 1;", 1, 6);
         sound("house abcdefgh weight 1;", 1);
+        sound("house az weight 1;house ay weight 1;house a weight 1;quarrel az ay;", 3);
         faulty("house a weight 00001;", 1, 15);
         sound("house a weight 0001;", 1);
         faulty("house a weight 12x;", 1, 15);
@@ -254,6 +270,11 @@ public final class PromiseTest {
         faulty(THREE + "bears 1 2 3 1000;", 2, 63);
         faulty(THREE + "bears 1 2 1000;", 4, 61);
         sound(THREE + "bears 0 999 3;", 3);
+        faulty("house a weight 1;house a weight 2;", 3, 23);
+        faulty(THREE + "quarrel street a;", 2, 59);
+        faulty(THREE + "quarrel a 1;", 2, 61);
+        faulty(THREE + "quarrel a;", 2, 60);
+        faulty(THREE + "quarrel a b c;", 2, 63);
         faulty(THREE + "quarrel a a;", 3, 61);
         faulty(THREE + "quarrel a d;", 5, 61);
         faulty(THREE + "quarrel d d;", 5, 59);
@@ -463,6 +484,9 @@ public final class PromiseTest {
         due("10: haul in a street", x.judge(2), 2 * 3 + 2 * 1);
         due("10: a street has no way round", x.judge(0), NONE);
         due("10: a street has no way round", x.judge(1), 0);
+        x = of(THREE + "wish c a worth 5;");
+        tellAll(x, 0, 1, 2);
+        due("10: a ring of three closes", x.judge(1), 5);
         x = of("house a weight 1;house b weight 2;wish a b worth 7;law 1;");
         tellAll(x, 0, 1);
         due("10: two are one pair", x.judge(1), 7);
@@ -561,6 +585,7 @@ public final class PromiseTest {
         due("16: alone", of(houses(1) + "law 0;").shut(), 0);
         due("16: no place bears", of(THREE + "bears 2 2 1;").shut(), 4);
         due("16: alone, too heavy", of("house a weight 2;bears 1;").shut(), 1);
+        due("16: ground that bears nothing", of("house a weight 1;bears 0;").shut(), 1);
         due("16: no houses", new MayRings().shut(), 0);
         MayRings x = of(THREE + "bears 1 2 3;");
         x.burns(0, true);
@@ -620,6 +645,12 @@ public final class PromiseTest {
         x = of(houses(4) + "street;quarrel a b;");
         due("18: four with a quarrel", x.mays(), 1);
         liesThere("18", x, 0, 2, 1, 3);
+        x = of("house a weight 9;house b weight 8;house c weight 1;house d weight 1;house e weight 1;house f weight 1;"
+                + "street;bears 9 8 1 1 1 1;");
+        due("18: two that are always neighbours", x.mays(), 1);
+        liesThere("18: two that are always neighbours", x, 0, 1, 2, 3, 4, 5);
+        due("18: a ring closes", of(houses(4) + "quarrel a d;quarrel b c;").mays(), 1);
+        due("18: a ring can't close", of(houses(4) + "quarrel a d;quarrel a c;").mays(), 0);
         x = of(FIVE + "street;quarrel a b;quarrel a c;");
         x.first();
         liesThere("18: the first of all leaves none beside it", x, 0, 3, 1, 2, 4);
