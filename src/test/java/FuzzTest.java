@@ -37,6 +37,9 @@ public final class FuzzTest {
         for (int i = 0; i < 4 * times && wrong == 0; i++) {
             new FuzzTest(base + 400000 + i, 9).run(60);
         }
+        for (int i = 0; i < 240 * times && wrong == 0; i++) {
+            new FuzzTest(base + 500000 + i, 4 + i % 4).families();
+        }
         System.out.println("FuzzTest: " + calls + " calls, " + (wrong == 0 ? "all alike" : "not alike"));
         if (wrong != 0) {
             System.exit(1);
@@ -211,6 +214,38 @@ public final class FuzzTest {
                 tellValley(text(1 + chance.nextInt(mostHouses)));
             }
             step(chance.nextInt(36));
+        }
+    }
+
+    /** Valleys of few words, so that several orders can share nothing: MAYS and GAME have to search. */
+    private void families() {
+        StringBuilder text = new StringBuilder();
+        for (int i = 0; i < mostHouses; i++) {
+            text.append("house ").append(name(i)).append(" weight ").append(1 + chance.nextInt(3)).append(";");
+        }
+        if (chance.nextInt(3) == 0) {
+            text.append("bears");
+            for (int i = 0; i < mostHouses; i++) {
+                text.append(" ").append(chance.nextInt(3) == 0 ? 2 : 3);
+            }
+            text.append(";");
+        }
+        int quarrels = chance.nextInt(mostHouses);
+        for (int a = 1; a < mostHouses; a++) {
+            for (int b = 0; b < a; b++) {
+                if (chance.nextInt(mostHouses * (mostHouses - 1) / 2) < quarrels) {
+                    text.append("quarrel ").append(name(a)).append(" ").append(name(b)).append(";");
+                }
+            }
+        }
+        tellValley(text.append(chance.nextBoolean() ? "street;" : "").toString());
+        for (int year = 0; year < 2 && wrong == 0; year++) {
+            same("mays()", real.mays(), plain.mays());
+            for (int place = 0; place <= mostHouses; place++) {
+                same("lies(" + place + ")", real.lies(place), plain.lies(place));
+            }
+            same("game()", real.game(), plain.game());
+            drawUp();
         }
     }
 

@@ -1,11 +1,5 @@
 /** For each promise of the document: what it says, the edges that it names, and wrong inputs. */
-public final class PromiseTest {
-    private static final int NONE = MayRings.NONE;
-    private static final String THREE = "house a weight 1;house b weight 2;house c weight 3;";
-    private static final String FIVE = "house a weight 5;house b weight 3;house c weight 4;house d weight 2;house e weight 1;";
-    private static int wrong = 0;
-    private static int asked = 0;
-
+public final class PromiseTest extends Asking {
     public static void main(String[] args) {
         promise1();
         promise2();
@@ -43,86 +37,7 @@ public final class PromiseTest {
         promise32();
         promise33and34();
         promise35();
-        wildNumbers();
-        System.out.println("PromiseTest: " + asked + " asked, " + wrong + " wrong");
-        if (wrong != 0) {
-            System.exit(1);
-        }
-    }
-
-    private static void due(String what, long got, long want) {
-        asked++;
-        if (got != want) {
-            wrong++;
-            System.out.println(what + " answered " + got + ", due is " + want);
-        }
-    }
-
-    private static void due(String what, boolean got, boolean want) {
-        due(what, got ? 1 : 0, want ? 1 : 0);
-    }
-
-    /** Puts a text on the tape, instead of what is there. */
-    private static void put(MayRings x, String text) {
-        x.end(0);
-        for (int from = 0; from < text.length(); from += 20) {
-            int[] five = new int[5];
-            for (int i = 0; i < 20; i++) {
-                int sign = from + i < text.length() ? text.charAt(from + i) : ' ';
-                five[i / 4] = five[i / 4] << 8 | sign;
-            }
-            x.feed(five[0], five[1], five[2], five[3], five[4]);
-        }
-        x.end(text.length());
-    }
-
-    private static MayRings of(String text) {
-        MayRings x = new MayRings();
-        put(x, text);
-        due("valley of " + text, x.valley() >= 0, true);
-        return x;
-    }
-
-    private static void faulty(String text, int fault, int place) {
-        MayRings x = new MayRings();
-        put(x, text);
-        due("valley of " + text, x.valley(), NONE);
-        due("fault(0) of " + text, x.fault(0), fault);
-        due("fault(1) of " + text, x.fault(1), place);
-    }
-
-    private static void sound(String text, int houses) {
-        MayRings x = new MayRings();
-        put(x, text);
-        due("valley of " + text, x.valley(), houses);
-        due("fault(0) of " + text, x.fault(0), 0);
-    }
-
-    private static String houses(int n) {
-        StringBuilder text = new StringBuilder();
-        for (int i = 0; i < n; i++) {
-            text.append("house ").append((char) ('a' + i)).append(" weight ").append(i + 1).append(";");
-        }
-        return text.toString();
-    }
-
-    private static void tellAll(MayRings x, int... houses) {
-        x.hush();
-        for (int house : houses) {
-            x.tell(house);
-        }
-    }
-
-    private static int drawUp(MayRings x, int... houses) {
-        tellAll(x, houses);
-        return x.up();
-    }
-
-    private static void liesThere(String what, MayRings x, int... houses) {
-        for (int place = 0; place < houses.length; place++) {
-            due(what + ": lies(" + place + ")", x.lies(place), houses[place]);
-        }
-        due(what + ": lies behind it", x.lies(houses.length), NONE);
+        end("PromiseTest");
     }
 
     private static void promise1() {
@@ -996,39 +911,5 @@ public final class PromiseTest {
         due("35: about(10)", x.about(10), NONE);
         due("35: about(-1)", x.about(-1), NONE);
         due("35: no law, no units", of(FIVE).about(8), 0);
-    }
-
-    /** No number may make a call fail, in any state. */
-    private static void wildNumbers() {
-        int[] wild = {Integer.MIN_VALUE, Integer.MIN_VALUE + 1, -2, -1, 0, 8, 9, 31, 32, 33, 512, 1600, Integer.MAX_VALUE};
-        for (String text : new String[] {"", houses(1), houses(2) + "street;", houses(9)}) {
-            MayRings x = of(text);
-            for (int a : wild) {
-                x.feed(a, a, a, a, a);
-                x.end(a);
-                x.valley();
-                x.fault(a);
-                x.tell(a);
-                x.judge(a);
-                x.lies(a);
-                x.stands(a);
-                x.untell(a);
-                x.later(a);
-                x.fits(a);
-                x.image(a);
-                x.back(a);
-                x.about(a);
-                x.burns(a, true);
-                x.at(a, 0, true);
-                x.at(0, a, false);
-                x.beside(a, 0, false);
-                x.sure(a, a);
-                x.since(a, 0);
-                x.let(0, a);
-                x.ruled(a, 0);
-                x.ruled(0, a);
-            }
-            asked++;
-        }
     }
 }
