@@ -32,6 +32,7 @@ public final class CallEdgeTest extends Asking {
         twentyLetters();
         refusedUntells();
         timeToTheLast();
+        refusedSures();
         refusedImagesAndBacks();
         threeBoxes();
         imagesKeep();
@@ -662,6 +663,25 @@ public final class CallEdgeTest extends Asking {
         due("30: known at the last", x.fits(99998), 120);
         due("30: known at the last", x.fits(99999), 24);
         due("30: known at the last", x.fits(100000), 120);
+    }
+
+    /** 31: "NONE if none FITS, or there is no such HOUSE, or it is out". */
+    private static void refusedSures() {
+        int[] none = {-1, 4, 5, 9, 32, Integer.MIN_VALUE, Integer.MAX_VALUE};
+        for (int house : none) {
+            refused("31: none such, or out", x -> x.sure(house, 0), NONE);
+        }
+        for (int house = 0; house < 4; house++) {
+            due("31: there", rich().sure(house, 0) >= 0, true);
+        }
+        MayRings x = of(houses(9));
+        due("31: the last house", x.sure(8, 0), 0);
+        due("31: beyond the last", x.sure(9, 0), NONE);
+        x.at(0, 0, true);
+        due("31: one fits", x.sure(0, 0), 0);
+        x.at(0, 1, true);
+        due("31: none fits", x.sure(0, 0), NONE);
+        due("31: it did before", x.sure(0, -1), 0);
     }
 
     /** 33, 34: "NONE if there is none such"; "NONE, doing nothing, if nothing was". */

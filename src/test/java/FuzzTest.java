@@ -220,13 +220,14 @@ public final class FuzzTest {
     /** Valleys of few words, so that several orders can share nothing: MAYS and GAME have to search. */
     private void families() {
         StringBuilder text = new StringBuilder();
+        int heaviest = 1 + chance.nextInt(4);
         for (int i = 0; i < mostHouses; i++) {
-            text.append("house ").append(name(i)).append(" weight ").append(1 + chance.nextInt(3)).append(";");
+            text.append("house ").append(name(i)).append(" weight ").append(1 + chance.nextInt(heaviest)).append(";");
         }
-        if (chance.nextInt(3) == 0) {
+        if (chance.nextInt(4) > 0) {
             text.append("bears");
             for (int i = 0; i < mostHouses; i++) {
-                text.append(" ").append(chance.nextInt(3) == 0 ? 2 : 3);
+                text.append(" ").append(1 + chance.nextInt(heaviest + 1));
             }
             text.append(";");
         }

@@ -30,6 +30,7 @@ public final class OrderEdgeTest extends Asking {
         maysOfLikeOnes();
         maysNow();
         maysOfRingsThatBeginLater();
+        maysOfFewOrders();
         games();
         spent();
         ruledByNumberOfHouses();
@@ -527,6 +528,36 @@ public final class OrderEdgeTest extends Asking {
         due("a pair that has to close is barred", of(light + "quarrel b c;quarrel b d;quarrel b e;").mays(), 0);
     }
 
+    /** A house for each weight, a, b, c and so on; then what places bear, and what else is told. */
+    private static String ofWeights(String weights, String bears, String rest) {
+        StringBuilder text = new StringBuilder();
+        for (int i = 0; i < weights.length(); i++) {
+            text.append("house ").append((char) ('a' + i)).append(" weight ").append(weights.charAt(i)).append(";");
+        }
+        return text + "bears " + bears + ";" + rest;
+    }
+
+    /** Where ground leaves few orders, all hangs on the only ones that share nothing. */
+    private static void maysOfFewOrders() {
+        MayRings x = of(ofWeights("212121", "3 1 2 2 1 2",
+                "quarrel d b;quarrel e a;quarrel e b;quarrel e c;quarrel f c;street;"));
+        due("one behind the other", x.mays(), 2);
+        liesThere("one behind the other", x, 1, 5, 0, 2, 3, 4);
+        x = of(ofWeights("2233142", "4 4 2 4 1 5 3", ""));
+        due("three rings", x.mays(), 3);
+        liesThere("three rings", x, 0, 1, 6, 2, 4, 5, 3);
+        x = of(ofWeights("3241221", "2 1 2 2 5 5 5", ""));
+        due("three rings", x.mays(), 3);
+        liesThere("three rings", x, 1, 3, 4, 5, 0, 2, 6);
+        x = of(ofWeights("3133131", "4 3 1 4 4 2 2", "quarrel b a;street;"));
+        due("three streets, whichever the second is", x.game(), 1);
+        due("three streets, whichever the second is", x.mays(), 3);
+        due("three streets, whichever the second is",
+                of(ofWeights("1222221", "3 2 2 1 3 2 1", "quarrel f c;quarrel g f;street;")).game(), 1);
+        due("three streets, whichever the second is",
+                of(ofWeights("2332311", "2 2 3 1 2 3 3", "quarrel g c;street;")).game(), 1);
+    }
+
     /** MAYS and GAME look at what the law lets now. */
     private static void maysNow() {
         MayRings x = of(FIVE);
@@ -678,6 +709,13 @@ public final class OrderEdgeTest extends Asking {
         due("told and untold at the same time", x.fits(29), 24);
         due("told and untold at the same time", x.fits(Integer.MAX_VALUE), 24);
         due("what was known stays known", x.fits(15), 6);
+        x = of(alike(4));
+        x.at(0, 0, true);
+        due("told at 0, at first", x.fits(-1), 24);
+        due("told at 0, at first", x.fits(0), 6);
+        x.later(0);
+        x.untell(0);
+        due("untold at 0, too", x.fits(0), 24);
     }
 
     /** "(one that is out is nobody's, and nowhere)". */
